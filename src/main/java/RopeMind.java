@@ -1698,7 +1698,8 @@ public final class RopeMind {
 
         /** A fault at the token that is looked at; false, so that a reader can answer with it. */
         boolean fail(int kind) {
-            failAt(kind, starts[next]);
+            fault = kind;
+            faultPlace = starts[next];
             return false;
         }
 
