@@ -1802,7 +1802,7 @@ public final class RopeMind {
             far[from] = 0;
             queue[0] = from;
             waiting = 1;
-            for (int i = 0; i < waiting && far[to] == NONE; i++) {
+            for (int i = 0; i < ALL && i < waiting && far[to] == NONE; i++) {
                 int moves = far[queue[i]];
                 if (moves >= FARTHEST) {
                     return NONE;

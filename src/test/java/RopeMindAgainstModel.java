@@ -4,6 +4,7 @@ import java.util.Random;
 public final class RopeMindAgainstModel {
     private static final int RUNS = 400;
     private static final int CALLS = 500;
+    private static final int SHAPE_PAIRS = 400;
 
     private final Random r;
     private final Texts texts;
@@ -22,7 +23,31 @@ public final class RopeMindAgainstModel {
             Check.part("run " + seed);
             new RopeMindAgainstModel(seed).run();
         }
+        Check.part("moves");
+        for (int i = 0; i < SHAPE_PAIRS && Check.wrong() < 20; i++) {
+            compareMoves(new Random(i));
+        }
         Check.end();
+    }
+
+    /** Two shapes that have the same marks, so that some way leads from the one to the other. */
+    private static void compareMoves(Random r) {
+        RopeMind x = new RopeMind();
+        Model m = new Model();
+        for (int k = 4; k < 6; k++) {
+            String text;
+            do {
+                StringBuilder b = new StringBuilder();
+                int n = 3 + r.nextInt(5);
+                for (int i = 0; i < n; i++) {
+                    b.append("out".charAt(r.nextInt(3)));
+                }
+                text = b.toString();
+            } while (k == 5 && (m.mark(text, 1) != m.mark(m.lore.shapes[0], 1) || m.mark(text, 2) != m.mark(m.lore.shapes[0], 2)));
+            Check.tell(x, k, text);
+            m.lore.shapes[k - 4] = text;
+        }
+        Check.due("moves from " + m.lore.shapes[0] + " to " + m.lore.shapes[1], x.moves(0, 1), m.moves(0, 1));
     }
 
     private void run() {
@@ -212,8 +237,8 @@ public final class RopeMindAgainstModel {
         int w = what(4);
         int a = r.nextInt(6) - 1;
         int b = r.nextInt(6) - 1;
-        Check.due("would(" + n + ", " + f + ", " + w + ")", x.would(n, f, w), m.would(n, f, w));
-        switch (r.nextInt(8)) {
+        switch (r.nextInt(10)) {
+            case 8, 9 -> Check.due("would(" + n + ", " + f + ", " + w + ")", x.would(n, f, w), m.would(n, f, w));
             case 0 -> Check.due("least(" + n + ", " + w + ")", x.least(n, w), m.least(n, w));
             case 1 -> Check.due("train(" + n + ", " + p + ", " + k + ", " + f + ")", x.train(n, p, k, f), m.train(n, p, k, f));
             case 2 -> Check.due("fits(" + n + ", " + p + ", " + w + ")", x.fits(n, p, w), m.fits(n, p, w));

@@ -150,6 +150,10 @@ public final class RopeMindPromises {
         due("set(3, 0, 1)", x.set(3, 0, 1), false);
         due("set(-1, 0, 1)", x.set(-1, 0, 1), false);
         due("look(2) still", x.look(2), 1000);
+        due("set(2, 0, 0)", x.set(2, 0, 0), true);
+        due("look(2)", x.look(2), 0);
+        due("set(0, 3, 1)", x.set(0, 3, 1), true);
+        due("look(23)", x.look(23), 1);
     }
 
     private static void ties() {
@@ -237,6 +241,11 @@ public final class RopeMindPromises {
         practise(y, 0, 2, 1, 1);
         practise(y, 0, 1, 1, 1);
         due("of several by PLACE", y.would(0, 97, 1), 1);
+        practise(y, 0, 3, 4, 3);
+        due("those ahead may not tie", y.would(0, 91, 1), 3);
+        due("its KNOT", y.would(0, 91, 2), 4);
+        y.pull(0, 91);
+        due("its KNOT by the book", y.book(5, 3), 4);
         RopeMind z = with(3);
         Check.tell(z, 0, "tie 50 when beside=2; tie 40 when beside=1; tie 90;");
         practise(z, 0, 0, 0, 1);
@@ -421,6 +430,15 @@ public final class RopeMindPromises {
         practise(z, 1, 0, 1, 1);
         z.splice(0, 1);
         due("SINCE of a HABIT that is gone does not count", z.habit(0, 3, 1, 1), 5);
+        RopeMind w = with(2, 2);
+        w.set(0, 4, 1);
+        practise(w, 1, 0, 4, 1);
+        w.tie(1, 0, 0, 0);
+        w.days(1);
+        practise(w, 0, 1, 4, 2);
+        w.splice(0, 1);
+        due("a HABIT of 1 has a SINCE", w.habit(0, 1, 4, 1), 0);
+        due("the greater HABIT", w.habit(0, 2, 4, 0), 2);
         due("nor at the other", z.habit(0, 4, 1, 1), 5);
     }
 
@@ -580,6 +598,14 @@ public final class RopeMindPromises {
         due("8 open", Check.tell(x, 0, "tie 1 when not not not not ((((1=1))));"), 1);
         due("8 open, one after another", Check.tell(x, 0, "tie 1 when " + "not not (not (not 1=1)) and ".repeat(4) + "1=1;"), 1);
         due("4 digits", Check.tell(x, 0, "tie 9999 / 0001;"), 1);
+        due("400 bytes", Check.tell(x, 0, "tie 0" + "+1".repeat(197) + ";"), 1);
+        x.rope(2, 0);
+        practise(x, 0, 0, 0, 1);
+        due("all of them count", x.at(0, 0, 2), 197);
+        Check.tape(x, "tie 12345;");
+        x.end(8);
+        due("what is behind the end does not count", x.text(0), N);
+        due("its place", x.fault(1), 8);
         due("a drill", Check.tell(x, 3, "tie 5 at 23; untie 23; pull 99; wet 9; rest 30; again 9 (rest 1;)"), 14);
         due("look(8)", x.look(8), 14);
         due("150 steps", Check.tell(x, 3, "again 5(again 5(again 3(again 2(wet 1;))))"), 150);
@@ -726,6 +752,10 @@ public final class RopeMindPromises {
         faulty(0, "tie 1 when not(not(not(not(", 1, 27);
         faulty(0, "tie 1;".repeat(16) + "tie", 3, 96);
         faulty(0, "tie 1;".repeat(16) + "x", 1, 96);
+        faulty(0, "tiez 1;", 1, 0);
+        faulty(0, "tieZ 1;", 1, 0);
+        faulty(0, ";".repeat(400), 1, 0);
+        faulty(0, "tie 1" + "+1".repeat(197) + "*", 1, 400);
         faulty(0, "forget 1;", 1, 0);
         faulty(1, "tie 1;", 1, 0);
         faulty(1, "forget ties;", 1, 7);
@@ -822,6 +852,8 @@ public final class RopeMindPromises {
         due("nothing is done", z.look(1), 9990);
         Check.tell(z, 3, "pull 91; rest 10;");
         due("by all its rests", z.drill(0, 0), N);
+        Check.tell(z, 3, "wet 1; wet 2; rest 9; wet 3;");
+        due("by its rests alone", z.drill(0, 0), 4);
     }
 
     private static void ropesAreAsked() {
@@ -1048,9 +1080,18 @@ public final class RopeMindPromises {
         Check.tell(x, 0, "tie 30+age*100+beside*10+habit*0;");
         due("NEXT if none tells", x.fits(0, 0, 3), 0);
         x.told(40, 2);
+        x.told(39, -1);
         due("beside as it is", x.fits(0, 1, 0), 99);
         x.days(5);
         due("SINCE this DAY", x.fits(0, 1, 0), 99);
+        x.rope(5, 5);
+        due("not on a ROPE where none is beside", x.fits(1, 1, 0), 0);
+        due("on this one still", x.fits(0, 1, 0), 99);
+        x.told(-1, 0);
+        Check.tell(x, 0, "tie 100 when knot<3; tie 200;");
+        due("99 is the greatest FORCE", x.fits(0, 0, 3), 0);
+        Check.tell(x, 0, "tie 99 when knot<3; tie 200;");
+        due("NEXT 99", x.fits(0, 0, 3), 99);
         due("nothing stays", x.habit(0, 1, 2, 0), 0);
         due("nothing stays", x.habit(0, 0, 3, 0), 22);
     }
@@ -1089,6 +1130,9 @@ public final class RopeMindPromises {
         Check.part("29, 30 order and yard");
         RopeMind x = new RopeMind();
         due("no orders, no ropes", x.yard(0), 0);
+        x.order(1);
+        due("an order, no ropes", x.yard(0), N);
+        x.order(N);
         due("yard(10)", x.yard(10), N);
         for (int i = 1; i <= 7; i++) {
             due("order", x.order(i == 1 ? 24 : 1), i);
