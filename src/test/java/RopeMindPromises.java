@@ -1208,6 +1208,10 @@ public final class RopeMindPromises {
         Check.tell(x, 4, "tuo");
         Check.tell(x, 5, "uto");
         due("a t changes place", x.moves(0, 1), 1);
+        Check.tell(x, 4, "oootuuu");
+        Check.tell(x, 5, "uuutooo");
+        due("12, the farthest there are", x.moves(0, 1), 12);
+        due("and back", x.moves(1, 0), 12);
         due("moves(0, 4)", x.moves(0, 4), N);
         due("moves(-1, 0)", x.moves(-1, 0), N);
         Check.tell(x, 4, "ooooooo");
