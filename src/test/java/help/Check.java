@@ -2,6 +2,7 @@
 final class Check {
     private static int asked = 0;
     private static int wrong = 0;
+    private static boolean quiet = false;
     private static String part = "";
 
     private Check() { }
@@ -14,6 +15,8 @@ final class Check {
         asked++;
         if (got != want) {
             wrong++;
+        }
+        if (got != want && !quiet) {
             System.out.println(part + ": " + call + " answered " + got + ", due is " + want);
         }
     }
@@ -24,6 +27,19 @@ final class Check {
 
     static int wrong() {
         return wrong;
+    }
+
+    /** How many wrong answers something gives; they are neither told nor counted. */
+    static int quietly(Runnable something) {
+        int askedBefore = asked;
+        int wrongBefore = wrong;
+        quiet = true;
+        something.run();
+        quiet = false;
+        int found = wrong - wrongBefore;
+        asked = askedBefore;
+        wrong = wrongBefore;
+        return found;
     }
 
     /** The five numbers of the feed call that brings bytes from a place on, blanks behind the end. */
