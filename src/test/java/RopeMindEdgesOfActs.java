@@ -309,8 +309,14 @@ public final class RopeMindEdgesOfActs {
         y.tie(0, 3, 0, 0);
         Ready.practise(y, 0, 2, 0, 1);
         Ready.practise(y, 0, 1, 0, 1);
-        due("PLACE 1 is asked ahead of 2, with none beside it", y.pull(0, 20), 1);
-        due("PLACE 2", y.at(0, 2, 0), 0);
+        due("PLACE 1 is asked ahead of 2, with none beside it", y.would(0, 20, 0), 1);
+        due("2 is the first", y.would(0, 20, 1), 2);
+        Ready.practise(y, 0, 2, 4, 2);
+        due("its KNOT", y.would(0, 20, 2), 4);
+        due("pull(0, 20)", y.pull(0, 20), 1);
+        due("its line", y.book(y.look(3) - 1, 2), 2);
+        due("the KNOT of its line", y.book(y.look(3) - 1, 3), 4);
+        due("PLACE 2", y.at(0, 2, 0), 4);
         due("not PLACE 1", y.at(0, 1, 0), N);
         due("it is by the next pull", y.pull(0, 20), 1);
     }
@@ -590,7 +596,9 @@ public final class RopeMindEdgesOfActs {
         Ready.habit(x, 0, 2, 0, 5);
         Ready.habit(x, 1, 0, 1, 5);
         Ready.habit(x, 0, 2, 4, 99);
+        Ready.habit(x, 1, 0, 5, 1);
         x.days(1);
+        Ready.habit(x, 0, 2, 5, 2);
         Ready.habit(x, 1, 0, 0, 6);
         Ready.habit(x, 0, 2, 1, 6);
         Ready.habit(x, 0, 2, 2, 1);
@@ -598,11 +606,12 @@ public final class RopeMindEdgesOfActs {
         Ready.habit(x, 1, 0, 4, 98);
         Ready.habit(x, 0, 1, 5, 9);
         Ready.habit(x, 1, 1, 5, 8);
+        Ready.habit(x, 1, 1, 0, 9);
         x.tie(1, 0, 5, 0);
         x.undo();
         x.splice(0, 1);
-        int[] habits = {6, 6, 1, 1, 99, 0};
-        int[] since = {0, 0, 1, 1, 0, N};
+        int[] habits = {6, 6, 1, 1, 99, 2};
+        int[] since = {0, 0, 1, 1, 0, 0};
         for (int k = 0; k < 6; k++) {
             due("the last of the first, KNOT " + k, x.habit(0, 2, k, 0), habits[k]);
             due("the first of the second, KNOT " + k, x.habit(0, 3, k, 0), habits[k]);
@@ -611,10 +620,13 @@ public final class RopeMindEdgesOfActs {
         }
         due("the one before is as it was", x.habit(0, 1, 5, 0), 9);
         due("the one behind too", x.habit(0, 4, 5, 0), 8);
+        due("its first KNOT too", x.habit(0, 4, 0, 0), 9);
         RopeMind y = Ready.with(2, 2);
         y.tie(0, 1, 2, 0);
         y.tie(1, 0, 3, 0);
         y.splice(1, 0);
+        due("0 of both stays 0", y.habit(1, 1, 5, 0), 0);
+        due("without a SINCE", y.habit(1, 2, 5, 1), N);
         due("TIED stays", y.at(1, 3, 0), 2);
         due("TIED stays", y.at(1, 0, 0), 3);
         due("nothing is TIED at the seam", y.at(1, 1, 0), N);

@@ -1,3 +1,6 @@
+import java.util.List;
+import java.util.function.Consumer;
+
 /** ==== 3. of the document's terms, with promises 12, 17 and 21: days, storms, the book's 200 lines, drills. */
 public final class RopeMindEdgesOfDays {
     private static final int N = Ready.N;
@@ -27,6 +30,7 @@ public final class RopeMindEdgesOfDays {
         bookAsksSixThings();
         drillsOfNothing();
         drillsDoWhatCanBeDone();
+        stepsAreAsCallsAre();
         drillsAtTheEndOfDays();
         drillsOfALostRope();
         drillsRestForAll();
@@ -422,6 +426,37 @@ public final class RopeMindEdgesOfDays {
         due("all but the rest", y.drill(0, 0), 5);
         due("TIED by itself at 23", y.book(2, 2), 23);
         due("DAY 0, for the ROPE broke", y.look(1), 0);
+    }
+
+    private static RopeMind drilled(String drill) {
+        RopeMind x = Ready.with(6, 5);
+        Ready.habit(x, 0, 1, 3, 60);
+        Ready.habit(x, 0, 5, 2, 30);
+        x.tie(0, 2, 2, 2);
+        x.set(2, 0, 600);
+        Ready.tell(x, 0, "tie 2 when place=1; tie 100-habit;");
+        Ready.tell(x, 3, drill);
+        return x;
+    }
+
+    private static void stepsAreAsCallsAre() {
+        Check.part("STEP by STEP: tie, untie, pull, wet; rest: as the calls of these names, and nothing else");
+        List<String> steps = List.of("tie 4 at 3;", "untie 2;", "pull 3;", "pull 45;", "pull 99;", "wet 5;", "wet 0;", "rest 1;");
+        List<Consumer<RopeMind>> calls = List.of(x -> x.tie(0, 3, 4, 7), x -> x.untie(0, 2), x -> x.pull(0, 3), x -> x.pull(0, 45),
+                x -> x.pull(0, 99), x -> x.wet(0, 5), x -> x.wet(0, 0), x -> x.days(1));
+        for (int i = 0; i < steps.size(); i++) {
+            String step = steps.get(i);
+            Consumer<RopeMind> call = calls.get(i);
+            Twins.alike(step, () -> {
+                RopeMind x = drilled(step);
+                due("one is done", x.drill(0, 7), 1);
+                return x;
+            }, () -> {
+                RopeMind x = drilled(step);
+                call.accept(x);
+                return x;
+            });
+        }
     }
 
     private static void drillsAtTheEndOfDays() {

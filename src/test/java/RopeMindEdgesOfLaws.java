@@ -27,6 +27,8 @@ public final class RopeMindEdgesOfLaws {
         whatHoldingAsks();
         yearsAreOf365Days();
         sixteenLinesAreRead();
+        lawsAsLongAsTheTape();
+        aLawLeavesNothingOfAnother();
         Check.end();
     }
 
@@ -202,7 +204,16 @@ public final class RopeMindEdgesOfLaws {
 
     private static void orAndNot() {
         Check.part("B = A {or A}. A = C {and C}. C = .. | not C | ( B )");
-        String[] c = {"1=2", "1=1"};
+        orAndNotOf("1=2", "1=1");
+        orAndNotOf("2<1", "1<2");
+        orAndNotOf("1>2", "2>1");
+        String deep = "1=2 or 1=1 and (".repeat(8) + "1=1" + ")".repeat(8);
+        due("eight deep, with what is open on each", need("tie 1 when " + deep + "; tie 2;"), 1);
+        due("the same, not so", need("tie 1 when " + deep.replace("(1=1)", "(1=2)") + "; tie 2;"), 2);
+    }
+
+    private static void orAndNotOf(String no, String yes) {
+        String[] c = {no, yes};
         for (int i = 0; i < 8; i++) {
             boolean a = (i & 4) != 0;
             boolean b = (i & 2) != 0;
@@ -219,9 +230,6 @@ public final class RopeMindEdgesOfLaws {
             due("three ors", need("tie 1 when " + x + " or " + y + " or " + z + "; tie 2;"), a || b || d ? 1 : 2);
             due("three ands", need("tie 1 when " + x + " and " + y + " and " + z + "; tie 2;"), a && b && d ? 1 : 2);
         }
-        String deep = "1=2 or 1=1 and (".repeat(8) + "1=1" + ")".repeat(8);
-        due("eight deep, with what is open on each", need("tie 1 when " + deep + "; tie 2;"), 1);
-        due("the same, not so", need("tie 1 when " + deep.replace("(1=1)", "(1=2)") + "; tie 2;"), 2);
     }
 
     private static void numbersWrap() {
@@ -431,5 +439,33 @@ public final class RopeMindEdgesOfLaws {
         for (int place = 0; place < 17; place++) {
             due("place " + place, x.at(0, place, 2), place < 16 ? place + 1 : 97);
         }
+    }
+
+    private static void lawsAsLongAsTheTape() {
+        Check.part("laws as long as the TAPE say what they say");
+        due("197 sums", need("tie 0" + "+1".repeat(197) + ";"), 197);
+        due("197 differences", need("tie 900" + "-1".repeat(190) + ";"), 710);
+        due("190 products", need("tie 3" + "*1".repeat(190) + ";"), 3);
+        due("55 ors", need("tie 1 when 1=2" + " or 1=2".repeat(53) + " or 1=1; tie 2;"), 1);
+        due("55 ors, none so", need("tie 1 when 1=2" + " or 1=2".repeat(53) + "; tie 2;"), 2);
+        due("45 ands", need("tie 1 when 1=1" + " and 1=1".repeat(44) + "; tie 2;"), 1);
+        due("45 ands, the last not so", need("tie 1 when 1=1" + " and 1=1".repeat(44) + " and 1=2; tie 2;"), 2);
+        String deep = "1=2 or 1=1 and (".repeat(8) + "1+1*2=3" + ")".repeat(8);
+        due("15 lines that are not so ahead of the deepest", need("tie1when1=2;".repeat(15) + "tie 3 when " + deep + ";"), 3);
+    }
+
+    private static void aLawLeavesNothingOfAnother() {
+        Check.part("The TAPE is TEXT k: nothing is left of what it was");
+        RopeMind x = Ready.with(2);
+        Ready.habit(x, 0, 0, 0, 10);
+        Ready.tell(x, 0, "tie 1+2+3;");
+        due("6", x.at(0, 0, 2), 6);
+        Ready.tell(x, 0, "tie 5 when 1=2;");
+        due("no line is so", x.at(0, 0, 2), 90);
+        Ready.tell(x, 0, "tie 1;tie 2;tie 3;");
+        Ready.tell(x, 0, "");
+        due("no line", x.at(0, 0, 2), 90);
+        Check.tell(x, 0, "tie 1;tie 2;tie 3;tie");
+        due("nor of a faulty one", x.at(0, 0, 2), 90);
     }
 }

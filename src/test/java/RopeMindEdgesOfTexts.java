@@ -222,6 +222,8 @@ public final class RopeMindEdgesOfTexts {
         due("the KNOT", x.at(0, 1, 0), 3);
         due("at its PLACE alone", x.at(0, 2, 0), N);
         due("WET", x.of(0, 3), 4);
+        Check.tell(x, 3, "again 1(again 1(again 1(again 1(wet");
+        due("what a faulty one left open is not open then", Check.tell(x, 3, "again 1(again 1(again 1(again 1(wet 1;))))"), 1);
         for (int k = 0; k < 4; k++) {
             Ready.tell(x, 4 + k, "outu");
             due("a SHAPE", Check.tell(x, 4 + k, "ttttttx"), N);
@@ -309,6 +311,13 @@ public final class RopeMindEdgesOfTexts {
         Check.part("letters as many as stand together are KEYWORDS or none");
         faulty(0, "ti 1;", 1, 0);
         faulty(0, "tiee 1;", 1, 0);
+        for (char c = 'A'; c <= 'z'; c++) {
+            boolean letter = c <= 'Z' || c >= 'a';
+            faulty(0, "tie" + c + " 1;", 1, letter ? 0 : 3);
+        }
+        for (char c : new char[] {'@', '[', '`', '{'}) {
+            faulty(0, "tie" + c + " 1;", 1, 3);
+        }
         faulty(0, "Tie 1;", 1, 0);
         faulty(0, "TIE 1;", 1, 0);
         faulty(0, "tie agewet;", 1, 4);
@@ -703,7 +712,11 @@ public final class RopeMindEdgesOfTexts {
         faulty(3, "wet1;".repeat(79) + "wet1 ", 1, 400);
         faulty(3, "again 1(".repeat(50), 3, 32);
         good(4, " ".repeat(399) + "o", 1);
-        faulty(4, " ".repeat(399) + "x", 1, 399);
+        for (int k = 0; k < 8; k++) {
+            faulty(k, " ".repeat(399) + "x", 1, 399);
+            faulty(k, "\n".repeat(399) + ";", 1, 399);
+            good(k, " ".repeat(400), 0);
+        }
         faulty(4, "o".repeat(400), 3, 7);
         faulty(0, "(".repeat(400), 1, 0);
         faulty(0, "x".repeat(400), 1, 0);

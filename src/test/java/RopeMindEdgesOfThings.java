@@ -297,11 +297,11 @@ public final class RopeMindEdgesOfThings {
         RopeMind x = Ready.with(2);
         due("BORN on DAY 0", x.of(0, 2), 0);
         due("dry", x.of(0, 3), 0);
-        x.wet(0, 9);
-        x.splice(0, x.rope(2, 0));
-        due("a number that was wet", x.of(0, 3), 9);
-        due("another's", x.rope(2, 0), 1);
-        due("is dry", x.of(1, 3), 0);
+        x.rope(2, 0);
+        x.wet(1, 9);
+        x.splice(0, 1);
+        due("a number that was wet", x.rope(2, 0), 1);
+        due("a new one is dry", x.of(1, 3), 0);
         RopeMind late = Ready.onDay(9999);
         late.rope(2, 0);
         due("BORN on DAY 9999", late.of(1, 2), 9999);

@@ -259,6 +259,17 @@ public final class RopeMindEdgesOfThought {
         due("or as much, and greater", x.train(0, 3, 0, 84), 6);
         x.days(1);
         due("an older KNOT there calls", x.train(0, 3, 0, 10), N);
+        RopeMind y = Ready.with(4);
+        Ready.practise(y, 0, 1, 1, 5);
+        due("that PLACE, but another KNOT", y.train(0, 1, 4, 85), 6);
+        due("that KNOT, but another PLACE", y.train(0, 2, 1, 85), N);
+        due("that KNOT there", y.train(0, 1, 1, 85), 0);
+        RopeMind z = Ready.with(4);
+        Ready.tell(z, 0, "tie 0;");
+        Ready.practise(z, 0, 1, 2, 1);
+        due("it would", z.would(0, 50, 1), 1);
+        z.days(3);
+        due("once more, for it is forgotten", z.train(0, 1, 2, 50), 1);
     }
 
     // TOLD, FITS, NEXT.
@@ -429,6 +440,9 @@ public final class RopeMindEdgesOfThought {
         due("99", x.fits(0, 0, 3), 99);
         Ready.tell(x, 0, "tie 100 when knot<3; tie 101;");
         due("100 is no FORCE", x.fits(0, 0, 3), 0);
+        Ready.tell(x, 0, "tie 9999;");
+        due("NEED 999 of all", x.fits(0, 0, 0), 594);
+        due("no FORCE tells", x.fits(0, 0, 3), 0);
     }
 
     // WEAK, LADDER.
@@ -635,6 +649,8 @@ public final class RopeMindEdgesOfThought {
         due("none of seven", movesOf("outoutt", "outoutt"), 0);
         due("11", movesOf("oooutuu", "uuutooo"), 11);
         due("12", movesOf("oootuuu", "uuutooo"), 12);
+        due("seven t", movesOf("ttttttt", "t"), 3);
+        due("seven t", movesOf("ttttttt", "ttttttt"), 0);
         due("never, by o", movesOf("o", ""), N);
         due("never, by u", movesOf("u", "o"), N);
         due("never, by t", movesOf("t", ""), N);
@@ -645,6 +661,7 @@ public final class RopeMindEdgesOfThought {
         Check.part("MOVES: or such come (7 letters at most)");
         due("from 5 to 7", movesOf("ooooo", "ooooouo"), 1);
         due("from 6 to 4 and to 6 again", movesOf("oooouu", "uuoooo"), 4);
+        due("by nothing, or almost", movesOf("oouu", "uuoo"), 4);
         due("from nothing to 7, and a t", movesOf("t", "ououtou"), 3);
         due("7 where a pair has to go ahead of another", movesOf("ouououo", "uoououo"), 2);
         due("a full one that no MOVE changes", movesOf("ooooooo", "ooooooo"), 0);

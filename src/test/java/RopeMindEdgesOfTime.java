@@ -16,6 +16,7 @@ public final class RopeMindEdgesOfTime {
         refusedActsAreNone();
         everyActGoesBack();
         breaksGoBack();
+        sinceGoesBack();
         stateGoesBack();
         actsAfterAnUndo();
         whatForgets();
@@ -190,6 +191,29 @@ public final class RopeMindEdgesOfTime {
         due("2", x.of(0, 0), 2);
     }
 
+    private static void sinceGoesBack() {
+        Check.part("UNDO: SINCE goes back, too");
+        RopeMind x = Ready.with(24);
+        Ready.tell(x, 1, "forget 1;");
+        Ready.habit(x, 0, 0, 0, 2);
+        Ready.habit(x, 0, 23, 5, 2);
+        x.days(1);
+        x.image(true);
+        x.days(1);
+        x.tie(0, 23, 5, 0);
+        x.tie(0, 0, 0, 0);
+        due("a new SINCE", x.habit(0, 23, 5, 1), 2);
+        x.undo();
+        x.undo();
+        x.undo();
+        due("of the first PLACE", x.habit(0, 0, 0, 1), 0);
+        due("of the last PLACE", x.habit(0, 23, 5, 1), 0);
+        x.days(1);
+        x.tie(0, 23, 5, 0);
+        x.image(false);
+        due("by THE IMAGE", x.habit(0, 23, 5, 1), 0);
+    }
+
     private static void stateGoesBack() {
         Check.part("UNDO: goes back (STATE, too)");
         RopeMind x = Ready.with(3);
@@ -308,15 +332,22 @@ public final class RopeMindEdgesOfTime {
     }
 
     private static void spoil(RopeMind x) {
-        for (int k = 0; k < 8; k++) {
-            Check.tell(x, k, "");
+        Check.tell(x, 0, "tie 1;");
+        Check.tell(x, 1, "forget 1;");
+        Check.tell(x, 2, "hold 1 when place=3; hold 9;");
+        Check.tell(x, 3, "untie 3; wet 1; pull 9;");
+        for (int k = 4; k < 8; k++) {
+            Check.tell(x, k, "uuttuut");
         }
         x.state(8);
         x.set(0, 0, 8);
         x.set(1, 0, 8);
         x.set(2, 0, 8);
         x.told(N, 0);
+        x.told(77, 4);
         x.order(N);
+        x.order(2);
+        x.order(3);
         x.cut(0, 3);
         x.splice(1, 0);
         x.sell(1, 9);
@@ -328,9 +359,11 @@ public final class RopeMindEdgesOfTime {
 
     private static RopeMind told() {
         RopeMind x = ready();
-        Ready.tell(x, 0, "tie 40;");
+        Ready.tell(x, 0, "tie 95-habit;");
         Ready.tell(x, 1, "forget 3;");
-        Ready.tell(x, 5, "tout");
+        for (int k = 4; k < 8; k++) {
+            Ready.tell(x, k, "tout");
+        }
         x.told(50, 2);
         x.order(7);
         x.set(0, 3, 7);
